@@ -54,7 +54,6 @@ public final class PagedHart {
     private static final int ENTRY_ACCESSED = 1 << 6;
     private static final int ENTRY_DIRTY = 1 << 7;
     private static final int ENTRY_KIND = ENTRY_VALID | ENTRY_READ | ENTRY_WRITE | ENTRY_EXECUTE;
-    private static final int ENTRY_LOW_FRAME = 0x3ff << 10;
     private static final int IN_SMALL_PAGE = 0xfff;
     private static final int IN_LARGE_PAGE = 0x3fffff;
 
@@ -216,51 +215,48 @@ public final class PagedHart {
 
     /** An address of the memory's bytes, or NONE less the cause of a trap: those are below 0. */
     private int locate(int address, int how) {
+        int place = address;
         int tables = controls[TABLES];
-        if (tables >= 0) {
-            return inMemoryOrTrap(address, how);
+        if (tables < 0) {
+            int entryAt = (tables << 12) + ((address >>> 22) << 2);
+            if (!isInMemory(entryAt)) {
+                return NONE - accessCause(how);
+            }
+            int entry = memory[entryAt >>> 2];
+            int within = IN_LARGE_PAGE;
+            if ((entry & ENTRY_KIND) == ENTRY_VALID) {
+                entryAt = frameOf(entry) + ((address >>> 12 & 0x3ff) << 2);
+                if (!isInMemory(entryAt)) {
+                    return NONE - accessCause(how);
+                }
+                entry = memory[entryAt >>> 2];
+                within = IN_SMALL_PAGE;
+            }
+            // Of a small page no bit of the frame lies within; of a large one bits 10 .. 19 of the entry do.
+            if ((frameOf(entry) & within) != 0 || !permits(entry, how)) {
+                return NONE - pageCause(how);
+            }
+            place = frameOf(entry) + (address & within);
         }
-        int entryAt = (tables << 12) + ((address >>> 22) << 2);
-        if (!isInMemory(entryAt)) {
-            return NONE - accessCause(how);
-        }
-        int entry = memory[entryAt >>> 2];
-        if ((entry & ENTRY_KIND) == ENTRY_VALID) {
-            return locateBySecondLevel(entry, address, how);
-        }
-        if ((entry & ENTRY_LOW_FRAME) != 0 || !permits(entry, how)) {
-            return NONE - pageCause(how);
-        }
-        return inMemoryOrTrap(frameOf(entry) + (address & IN_LARGE_PAGE), how);
-    }
-
-    private int locateBySecondLevel(int pointer, int address, int how) {
-        int entryAt = frameOf(pointer) + ((address >>> 12 & 0x3ff) << 2);
-        if (!isInMemory(entryAt)) {
-            return NONE - accessCause(how);
-        }
-        int entry = memory[entryAt >>> 2];
-        if (!permits(entry, how)) {
-            return NONE - pageCause(how);
-        }
-        return inMemoryOrTrap(frameOf(entry) + (address & IN_SMALL_PAGE), how);
+        return isInMemory(place) ? place : NONE - accessCause(how);
     }
 
     private static int frameOf(int entry) {
         return (entry >>> 10) << 12;
     }
 
-    private static int inMemoryOrTrap(int address, int how) {
-        return isInMemory(address) ? address : NONE - accessCause(how);
-    }
-
     private boolean permits(int entry, int how) {
-        if ((entry & (ENTRY_READ | ENTRY_WRITE)) == ENTRY_WRITE) {
-            return false;
+        int needed = ENTRY_VALID | ENTRY_ACCESSED;
+        if (how == FETCH) {
+            needed |= ENTRY_EXECUTE;
+        } else if (how == LOAD) {
+            needed |= ENTRY_READ;
+        } else {
+            needed |= ENTRY_WRITE | ENTRY_DIRTY;
         }
         // That it has one of the bits 1 and 3 follows: each use needs one of them, or bit 2, and so 1.
-        int needed = ENTRY_VALID | ENTRY_ACCESSED | neededFor(how);
-        if ((entry & needed) != needed) {
+        boolean writeAlone = (entry & (ENTRY_READ | ENTRY_WRITE)) == ENTRY_WRITE;
+        if (writeAlone || (entry & needed) != needed) {
             return false;
         }
         boolean usersPage = (entry & ENTRY_USER) != 0;
@@ -268,13 +264,6 @@ public final class PagedHart {
             return usersPage;
         }
         return !usersPage || how != FETCH && (controls[STATUS] & SUM) != 0;
-    }
-
-    private static int neededFor(int how) {
-        if (how == FETCH) {
-            return ENTRY_EXECUTE;
-        }
-        return how == LOAD ? ENTRY_READ : ENTRY_WRITE | ENTRY_DIRTY;
     }
 
     private static int misalignedCause(int how) {
@@ -285,7 +274,10 @@ public final class PagedHart {
     }
 
     private static int accessCause(int how) {
-        return misalignedCause(how) + 1;
+        if (how == FETCH) {
+            return 1;
+        }
+        return how == LOAD ? 5 : 7;
     }
 
     private static int pageCause(int how) {
