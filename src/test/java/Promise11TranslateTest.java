@@ -163,6 +163,10 @@ public final class Promise11TranslateTest {
         for (int how = FETCH; how <= STORE; how++) {
             Check.same("first table behind the memory", x.translate(0, how), ACCESS[how]);
         }
+        x.setControl(Asm.TABLES, -1);
+        for (int how = FETCH; how <= STORE; how++) {
+            Check.same("first table far behind the memory", x.translate(0, how), ACCESS[how]);
+        }
         x.setControl(Asm.TABLES, 0x8000003f);
         x.poke(0x3fffc, bits);
         Check.same("first table in the last page", x.translate(0xffc00010, LOAD), 0x10);

@@ -67,6 +67,10 @@ public final class StepMemoryTest {
             Check.same("stored by " + number, x.peek(0x4000 + number), 77);
             Check.same("loaded by " + number, x.register(3), 77);
         }
+        PagedHart y = Asm.of(Asm.s(2, 0, 2, 0), Asm.CALL);
+        y.setRegister(2, 78);
+        Check.same("steps over a store at 0", y.run(5), 2);
+        Check.same("stored at 0", y.peek(0), 78);
         PagedHart x = Asm.of(Asm.load(2, 1, 1, 8));
         x.setRegister(1, -8);
         x.run(1);

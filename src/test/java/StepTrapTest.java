@@ -14,6 +14,7 @@ public final class StepTrapTest {
         countsBelowMinusOne();
         supervisorsAreNotCounted();
         trapsAreNotCounted();
+        allOthersAreCounted();
         usersReturnAtOnce();
         Check.done();
     }
@@ -190,6 +191,23 @@ public final class StepTrapTest {
             x.run(1);
             Check.same("mode", x.register(Asm.MODE), 1);
             counts("word " + Integer.toHexString(word), x, 5, 6);
+        }
+    }
+
+    private static void allOthersAreCounted() {
+        int[] words = {
+            Asm.u(0x37, 1, 1), Asm.u(0x17, 1, 1), Asm.jump(1, 8), Asm.jumpTo(1, 0, 8), Asm.branch(0, 0, 0, 8),
+            Asm.branch(1, 0, 0, 8), Asm.load(2, 1, 0, 0), Asm.s(2, 0, 1, 0), Asm.NOTHING,
+            Asm.r(0x33, 0, 0, 1, 1, 1), Asm.r(0x33, 1, 4, 1, 1, 0), Asm.r(0x33, 0x20, 0, 1, 1, 1), 0xf
+        };
+        for (int word : words) {
+            PagedHart x = Asm.of(word);
+            x.setRegister(Asm.MODE, 0);
+            x.setControl(Asm.TURN, 5);
+            x.setControl(Asm.WORK, 6);
+            x.run(1);
+            Check.same("mode", x.register(Asm.MODE), 0);
+            counts("word " + Integer.toHexString(word), x, 4, 5);
         }
     }
 
