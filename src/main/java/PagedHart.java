@@ -218,6 +218,7 @@ public final class PagedHart {
         int place = address;
         int tables = controls[TABLES];
         if (tables < 0) {
+            // Times 4096 the bits above 19 wrap away, so that those above 21 need no mask.
             int entryAt = (tables << 12) + ((address >>> 22) << 2);
             if (!isInMemory(entryAt)) {
                 return NONE - accessCause(how);
