@@ -35,7 +35,7 @@ final class Check {
     }
 
     /** Just that class: a machine's ArrayIndexOutOfBoundsException would be one below it. */
-    private static void throwsJust(String what, Class<? extends RuntimeException> due, Call call) {
+    static void throwsJust(String what, Class<? extends RuntimeException> due, Call call) {
         try {
             call.make();
         } catch (RuntimeException e) {
@@ -47,6 +47,20 @@ final class Check {
         }
         wrong++;
         System.out.println(what + " threw nothing, due is " + due.getName());
+    }
+
+    /** A test of its own for a sentence of the document: tells which sentence is broken. */
+    static void sentence(String words, Call test) {
+        int before = wrong;
+        try {
+            test.make();
+        } catch (RuntimeException e) {
+            wrong++;
+            System.out.println("a call threw " + e);
+        }
+        if (wrong != before) {
+            System.out.println("BROKEN: " + words);
+        }
     }
 
     static void done() {
