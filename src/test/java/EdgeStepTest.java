@@ -12,6 +12,7 @@ public final class EdgeStepTest {
         Check.sentence("In the user's mode (and in no other)", EdgeStepTest::supervisorsEmptyCounts);
         Check.sentence("first: before the fetch", EdgeStepTest::beforeTheFetch);
         Check.sentence("WORK and TURN become less by 1 each", EdgeStepTest::lessByOne);
+        Check.sentence("less by 1 each: for each kind of instruction", EdgeStepTest::allKindsAreCounted);
         Check.sentence("but -1 stays", EdgeStepTest::minusOneStays);
         Check.sentence("less by 1: below -1 and around", EdgeStepTest::countsWrap);
         Check.sentence("If it is done (without a trap)", EdgeStepTest::trapsAreNotCounted);
@@ -126,6 +127,24 @@ public final class EdgeStepTest {
         PagedHart y = user(MAX, MAX);
         y.run(1);
         counts("the greatest", y, MAX - 1, MAX - 1);
+    }
+
+    private static void allKindsAreCounted() {
+        int[] words = {
+            Asm.u(0x37, 1, 1), Asm.u(0x17, 1, 1), Asm.jump(1, 8), Asm.jump(0, 0), Asm.jumpTo(1, 0, 8),
+            Asm.branch(0, 0, 0, 8), Asm.branch(1, 0, 0, 8), Asm.branch(1, 0, 0, 2), Asm.branch(5, 0, 0, 0),
+            Asm.load(0, 1, 0, 3), Asm.load(1, 1, 0, 2), Asm.load(2, 0, 0, 0), Asm.load(4, 1, 0, 3), Asm.load(5, 1, 0, 2),
+            Asm.s(0, 0, 1, 0x203), Asm.s(1, 0, 1, 0x202), Asm.s(2, 0, 1, 0x200), Asm.NOTHING, Asm.r(0x13, 0, 1, 1, 1, 31),
+            Asm.r(0x13, 0, 5, 1, 1, 31), Asm.r(0x13, 0x20, 5, 1, 1, 31), Asm.r(0x33, 0, 0, 0, 1, 1),
+            Asm.r(0x33, 0x20, 0, 1, 1, 1), Asm.r(0x33, 0x20, 5, 1, 1, 1), Asm.r(0x33, 1, 1, 1, 1, 1), Asm.r(0x33, 1, 4, 1, 1, 0), 0xf
+        };
+        for (int word : words) {
+            PagedHart x = user(1, 2);
+            x.poke(0, word);
+            x.run(1);
+            Check.same("mode after " + Integer.toHexString(word), x.register(Asm.MODE), 0);
+            counts("after " + Integer.toHexString(word), x, 0, 1);
+        }
     }
 
     private static void minusOneStays() {

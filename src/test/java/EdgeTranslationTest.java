@@ -263,6 +263,12 @@ public final class EdgeTranslationTest {
     }
 
     private static void noTable() {
+        tablesBehindTheMemory();
+        tablesOfAllBits();
+        tablesInTheLastPage();
+    }
+
+    private static void tablesBehindTheMemory() {
         int[] pages = {64, 65, 128, 0x7ffff, 0x80000, 0xfffff};
         for (int page : pages) {
             for (int mode = 0; mode < 2; mode++) {
@@ -282,14 +288,27 @@ public final class EdgeTranslationTest {
                 refusedByAccess("second table in page " + page, y, 0x3fffff);
             }
         }
-        // The last page is the memory's, with its last word.
-        PagedHart z = hart(1);
-        z.poke(FIRST, 63 << 10 | POINTER);
-        z.poke(0x3fffc, small(5));
-        found("second table in the last page", z, 0x3ff008, 0x5008);
-        z.poke(0x3fffc, ALL);
-        z.setControl(Asm.TABLES, 0x8000003f);
-        Check.same("first table in the last page", z.translate(0xffc05008, LOAD), 0x5008);
+    }
+
+    /** Translation is on, and its table behind the memory. */
+    private static void tablesOfAllBits() {
+        PagedHart x = new PagedHart();
+        x.setControl(Asm.TABLES, -1);
+        for (int how : HOWS) {
+            Check.same("TABLES of all bits", x.translate(0x5000, how), ACCESS[how]);
+        }
+        Asm.trapDue("fetch by TABLES of all bits", x, 1, 0, 0);
+    }
+
+    /** It is the memory's, with its last word. */
+    private static void tablesInTheLastPage() {
+        PagedHart x = hart(1);
+        x.poke(FIRST, 63 << 10 | POINTER);
+        x.poke(0x3fffc, small(5));
+        found("second table in the last page", x, 0x3ff008, 0x5008);
+        x.poke(0x3fffc, ALL);
+        x.setControl(Asm.TABLES, 0x8000003f);
+        Check.same("first table in the last page", x.translate(0xffc05008, LOAD), 0x5008);
     }
 
     private static void bitZero() {
